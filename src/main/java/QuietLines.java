@@ -37,7 +37,7 @@ public final class QuietLines {
     private final Runner other = new Runner();
     private final Listener listener = new Listener();
     private final Heard heard = new Heard();
-    private final Judge judging = new Judge(flow, listener);
+    private final Judge judging = new Judge();
     private long theSeed = 0;
 
     public QuietLines() {
@@ -239,8 +239,7 @@ public final class QuietLines {
         if (n < 1 || n > MOST_DOINGS || row < 0) {
             return OUTSIDE;
         }
-        long rows = Judge.rowsOf(n);
-        return row < rows ? judging.firstNotSo(lines, n, row) : OUTSIDE;
+        return row < Judge.rowsOf(n) ? judging.firstNotSo(lines, n, row) : OUTSIDE;
     }
 
     // ---- heard
@@ -264,7 +263,7 @@ public final class QuietLines {
         }
         int many = 0;
         for (int pair = 0; pair < PAIRS; pair++) {
-            if (heard.isSo(lines, one, pair / FIGURES, pair % FIGURES)) {
+            if (heard.isAllSo(lines, one, pair / FIGURES, pair % FIGURES)) {
                 if (what == 1) {
                     return pair;
                 }
@@ -466,11 +465,8 @@ public final class QuietLines {
 
         /** Where one goes on by t: a LINE, or THE END as the number of LINES; the next one, if it has no t. */
         int targetOf(int line) {
-            if (!hasPart(parts[line][KIND], T)) {
-                return line + 1;
-            }
             int t = parts[line][T];
-            return t == FULL_STOP ? size : t;
+            return t == NONE ? line + 1 : t == FULL_STOP ? size : t;
         }
 
         int linesOfKind(int kind) {
@@ -628,7 +624,10 @@ public final class QuietLines {
             for (int line = 0; line < lines.size; line++) {
                 if (isReached(line)) {
                     contexts[line] = contextOf(lines, line);
-                    leave(lines, line);
+                    leaveByNext(lines, line);
+                    if (lines.parts[line][T] != NONE) {
+                        leaveByTarget(lines, line);
+                    }
                     if (isSpokenWrong(lines.parts[line], line)) {
                         wrongLines |= 1 << line;
                     }
@@ -680,27 +679,23 @@ public final class QuietLines {
             }
         }
 
-        private void leave(Lines lines, int line) {
+        private void leaveByNext(Lines lines, int line) {
             int[] parts = lines.parts[line];
             int[] here = labels[line];
-            int x = parts[X];
             System.arraycopy(here, 0, leaving, 0, VARIABLES);
             switch (parts[KIND]) {
                 case BECOMES:
                 case FREE:
-                    leaving[x] = contexts[line];
+                    leaving[parts[X]] = contexts[line];
                     break;
                 case SUM:
                 case DIVISION:
-                    leaving[x] = here[parts[Y]] | here[parts[Z]] | contexts[line];
+                    leaving[parts[X]] = here[parts[Y]] | here[parts[Z]] | contexts[line];
                     break;
                 default:
                     break;
             }
             comeTo(line + 1, lines.size);
-            if (Lines.hasPart(parts[KIND], T)) {
-                leaveByTarget(lines, line);
-            }
         }
 
         private void leaveByTarget(Lines lines, int line) {
@@ -763,14 +758,19 @@ public final class QuietLines {
                 case DIVISION:
                     int divisor = values[parts[Z]];
                     if (divisor == 0) {
-                        return thrown(lines, line, 1);
+                        beThrown(1, parts[T]);
+                        return lines.targetOf(line);
                     }
                     values[x] = values[parts[Y]] / divisor;
                     return line + 1;
                 case BRANCH:
                     return values[x] != 0 ? lines.targetOf(line) : line + 1;
                 case THROW:
-                    return values[x] != 0 ? thrown(lines, line, values[x]) : line + 1;
+                    if (values[x] == 0) {
+                        return line + 1;
+                    }
+                    beThrown(values[x], parts[T]);
+                    return lines.targetOf(line);
                 case SPEAK:
                     speak(line, values[x]);
                     return line + 1;
@@ -779,10 +779,9 @@ public final class QuietLines {
             }
         }
 
-        private int thrown(Lines lines, int line, int value) {
+        private void beThrown(int value, int t) {
             values[E] = value;
-            failed = lines.parts[line][T] == FULL_STOP;
-            return lines.targetOf(line);
+            failed = t == FULL_STOP;
         }
 
         private void speak(int line, int value) {
@@ -807,7 +806,8 @@ public final class QuietLines {
 
         /** The first number that is SPOKEN otherwise, also where one has none; NONE. */
         int firstUnlike(Runner other) {
-            for (int i = 0; i < MOST_LINES; i++) {
+            int longer = Math.max(many, other.many);
+            for (int i = 0; i < longer; i++) {
                 if (spoken(i) != other.spoken(i)) {
                     return i;
                 }
@@ -903,12 +903,12 @@ public final class QuietLines {
             return true;
         }
 
-        boolean isSo(Lines lines, Runner runner, int b, int c) {
+        boolean isAllSo(Lines lines, Runner runner, int b, int c) {
             for (int k = 0; k < size; k++) {
-                int[] one = row[k];
-                runner.go(lines, one[0], b, c);
-                boolean was = runner.spoken(one[1]) == one[2];
-                if (was != (one[3] == 1)) {
+                int[] told = row[k];
+                runner.go(lines, told[0], b, c);
+                boolean was = runner.spoken(told[1]) == told[2];
+                if (was != (told[3] == 1)) {
                     return false;
                 }
             }
@@ -921,13 +921,8 @@ public final class QuietLines {
         private static final long ROWS_OF_ONE = 10000;
 
         private final int[] labels = new int[INPUTS];
-        private final Flow flow;
-        private final Listener listener;
-
-        Judge(Flow flow, Listener listener) {
-            this.flow = flow;
-            this.listener = listener;
-        }
+        private final Flow flow = new Flow();
+        private final Listener listener = new Listener();
 
         /** How many rows n doings can be told as. */
         static long rowsOf(int n) {
@@ -943,8 +938,7 @@ public final class QuietLines {
             flow.read(lines, labels);
             for (int place = 0; place < n; place++) {
                 long unit = rowsOf(n - 1 - place);
-                int doing = unit == 0 ? 0 : (int) (row / unit % ROWS_OF_ONE);
-                if (!isSo(lines, doing)) {
+                if (unit < 1 || !isSo(lines, (int) (row / unit % ROWS_OF_ONE))) {
                     return place;
                 }
             }
@@ -956,18 +950,15 @@ public final class QuietLines {
             int first = doing / 100 % 10;
             int second = doing / 10 % 10;
             int last = doing % 10;
-            if (kind == 2) {
-                return lines.has(first) && flow.isReached(first) && isBelow(second, VARIABLES)
-                        && flow.labels[first][second] == last;
+            if (second != 0 && kind != 2) {
+                return false;
             }
-            return second == 0 && isSoOf(lines, kind, first, last);
-        }
-
-        /** A doing whose third figure has to be 0. */
-        private boolean isSoOf(Lines lines, int kind, int first, int last) {
             switch (kind) {
                 case 1:
                     return isLabelled(lines, first, last);
+                case 2:
+                    return lines.has(first) && flow.isReached(first) && isBelow(second, VARIABLES)
+                            && flow.labels[first][second] == last;
                 case 3:
                     return lines.has(first) && flow.isReached(first) && flow.contexts[first] == last;
                 case 4:

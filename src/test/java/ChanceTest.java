@@ -17,7 +17,7 @@ public final class ChanceTest {
     }
 
     public static void main(String[] args) {
-        int rounds = args.length > 0 ? Integer.parseInt(args[0]) : 200;
+        int rounds = args.length > 0 ? Integer.parseInt(args[0]) : 500;
         for (int seed = 0; seed < rounds && Due.wrongSoFar() == 0; seed++) {
             new ChanceTest(seed).round();
         }
