@@ -215,6 +215,12 @@ public final class ActsEdgesTest {
     }
 
     private static void labelled() {
+        Due.says("LABELLED: an input a, b, c gets another LABEL.");
+        QuietLines told = Due.program("QOaObOc");
+        for (int input = 0; input < 3; input++) {
+            told.relabel(input, 3 - input);
+            due("label(0, " + input + ")", told.label(0, input), 3 - input);
+        }
         Due.says("LABELLED: its LABEL as it was.");
         for (int input = 0; input < 3; input++) {
             QuietLines x = new QuietLines();

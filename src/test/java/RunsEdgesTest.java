@@ -7,6 +7,7 @@ public final class RunsEdgesTest {
 
     public static void main(String[] args) {
         becomes();
+        spokenAndFree();
         sums();
         divisions();
         branches();
@@ -39,6 +40,14 @@ public final class RunsEdgesTest {
             for (char x = 'a'; x <= 'e'; x++) {
                 Due.spoken("QK" + x + v + "O" + x, 5, 5, 5, v);
             }
+        }
+    }
+
+    private static void spokenAndFree() {
+        Due.says("Ox (5) x is SPOKEN Dx (6) x is given FREE");
+        for (int v = 0; v <= 9; v++) {
+            Due.spoken("QOaDaOaObDbOb", v, 9 - v, 0, v, v, 9 - v, 9 - v);
+            Due.spoken("QDaDbDcDdDe", v, v, v);
         }
     }
 
@@ -269,6 +278,14 @@ public final class RunsEdgesTest {
         // FAILURE and e at THE END are not SPOKEN
         leak("QOaTb.");
         leak("QOaTb2");
+        // by 10 there would be one: 10 by 5 is 2, and by 2 alone e is 0 then; but a, b, c are 9 at most
+        leak("QKd5Vead.Kd8SeedBe.Ob");
+        leak("QKd5Vebd.Kd8SeedBe.Oa");
+        leak("QKd5Vecd.Kd8SeedBe.Oa");
+        // by 9 there is one: 9 by 5 is 1, as it is by 5
+        leak("QKd5Vead.Kd9SeedBe.Ob", 5, 0, 10, 0);
+        leak("QKd5Vebd.Kd9SeedBe.Oa", 0, 0, 50, 0);
+        leak("QKd5Vecd.Kd9SeedBe.Oa", 0, 0, 5, 0);
         // a LABEL makes no LEAK, and none takes it away
         QuietLines x = Due.program("QOa");
         x.relabel(0, 3);
@@ -314,6 +331,7 @@ public final class RunsEdgesTest {
         for (int a = 0; a <= 9; a++) {
             due("worlds(" + a + ")", x.worlds(a), quotients[a]);
         }
+        nineThatSpeak();
         Due.says("`int worlds(int a)`: WORLDS. OUTSIDE.");
         due("worlds(-1)", x.worlds(-1), OUTSIDE);
         due("worlds(10)", x.worlds(10), OUTSIDE);
@@ -322,7 +340,28 @@ public final class RunsEdgesTest {
         }
     }
 
+    /** Nine LINES that speak b or c, in each way: unlike rows of nine figures, 10 of them or 100. */
+    private static void nineThatSpeak() {
+        for (int bits = 0; bits < 512; bits++) {
+            StringBuilder program = new StringBuilder("Q");
+            for (int line = 0; line < 9; line++) {
+                program.append((bits >> line & 1) == 1 ? "Ob" : "Oc");
+            }
+            boolean both = bits != 0 && bits != 511;
+            QuietLines x = Due.program(program.toString());
+            due(program + ": worlds(0)", x.worlds(0), both ? 100 : 10);
+            due(program + ": alike(0, 9, 9)", x.alike(0, 9, 9), both ? 1 : 10);
+            due(program + ": alike(0, 0, 9)", x.alike(0, 0, 9), both ? 1 : 10);
+        }
+    }
+
     private static void alike() {
+        Due.says("`int alike(int a, int b, int c)`: ALIKE. OUTSIDE.");
+        int[][] values = {{-1, 0, 0}, {10, 0, 0}, {0, -1, 0}, {0, 10, 0}, {0, 0, -1}, {0, 0, 10}, {10, 10, 10}, {-1, -1, -1}};
+        for (int[] v : values) {
+            due("alike by " + v[0] + ", " + v[1] + ", " + v[2], new QuietLines().alike(v[0], v[1], v[2]), OUTSIDE);
+        }
+        due("alike(9, 9, 9)", new QuietLines().alike(9, 9, 9), 100);
         Due.says("ALIKE to a, b, c: by how many pairs of b, c the same is SPOKEN.");
         for (int pair = 0; pair < 100; pair++) {
             QuietLines x = Due.program(onlyBy(pair));
