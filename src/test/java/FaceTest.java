@@ -64,6 +64,11 @@ public final class FaceTest {
                 Due.holds(method + " bears a name of its own", !names.contains(method.getName()));
             }
         }
+        for (Class<?> inside : QuietLines.class.getDeclaredClasses()) {
+            for (Method method : inside.getDeclaredMethods()) {
+                Due.holds(method + " bears a name of its own", !names.contains(method.getName()));
+            }
+        }
     }
 
     private static void fields() {

@@ -15,6 +15,9 @@ public final class LanguageTest {
     private static final Pattern METHOD =
             Pattern.compile("^( +)(?:(?:public|private|static|final) )*[\\w\\[\\]]+ (\\w+)\\(([^()]*)\\) \\{$");
     private static final Pattern CALL = Pattern.compile("\\b(\\w+)\\(");
+    /** Rule 4, as far as the program uses it; a call of another class must be one of the program's own. */
+    private static final Set<String> LIBRARY = Set.of("Arrays.fill", "System.arraycopy", "Integer.bitCount",
+            "Integer.numberOfTrailingZeros", "Math.abs", "Math.max");
     private static final int MOST_LINES = 60, MOST_PARAMETERS = 7, MOST_DEPTH = 8;
 
     /** By name; methods of one name in several classes count as one. */
@@ -44,7 +47,26 @@ public final class LanguageTest {
         }
         Due.holds("some twelve classes at most", many <= 12);
         methods(source.split("\n"));
+        library(code);
         Due.end();
+    }
+
+    private static void library(String code) {
+        Matcher call = Pattern.compile("\\b([A-Z][a-z]\\w*)\\.(\\w+)\\(").matcher(code);
+        int many = 0;
+        while (call.find()) {
+            boolean isOwn = code.contains("class " + call.group(1) + " ");
+            Due.holds("rule 4: " + call.group(), isOwn || LIBRARY.contains(call.group(1) + "." + call.group(2)));
+            many++;
+        }
+        Due.holds("calls of the library are found", many > 10);
+        Matcher made = Pattern.compile("\\bnew (\\w+)(\\W)").matcher(code);
+        while (made.find()) {
+            boolean isOwn = made.group(2).equals("(") && code.contains("class " + made.group(1) + " ");
+            boolean isRow = made.group(2).equals("[") && Set.of("int", "boolean").contains(made.group(1));
+            Due.holds("rule 3: " + made.group(), isOwn || isRow);
+        }
+        Due.holds("rule 10: texts are not joined by +", !Pattern.compile("\"\\s*\\+|\\+\\s*\"").matcher(code).find());
     }
 
     private static void methods(String[] lines) {

@@ -6,7 +6,7 @@ import java.util.Random;
 public final class RoomTest {
     private static final int[] ODD = {0, 1, 2, 3, 4, 5, 6, 7, 8, 9, 10, 11, 20, 21, 48, 255, 256, -1, -2, -9, 1 << 30,
         Integer.MAX_VALUE, Integer.MIN_VALUE};
-    private static final int MOST_BYTES_OF_ONE = 40000;
+    private static final int MOST_BYTES_OF_ONE = 40000, MOST_SECONDS = 300;
 
     private final Random chance;
     private final QuietLines x = new QuietLines();
@@ -16,6 +16,7 @@ public final class RoomTest {
     }
 
     public static void main(String[] args) {
+        watch();
         ThreadMXBean threads = (ThreadMXBean) ManagementFactory.getThreadMXBean();
         for (int seed = 0; seed < 300; seed++) {
             RoomTest room = new RoomTest(seed);
@@ -35,6 +36,21 @@ public final class RoomTest {
         Due.holds("an object is small: " + (made - before), made - before < MOST_BYTES_OF_ONE);
         Due.holds("20000 calls make no objects: " + used, used < 2000);
         Due.end();
+    }
+
+    /** A call that does not end would else leave the test without an answer. */
+    private static void watch() {
+        Thread watcher = new Thread(() -> {
+            try {
+                Thread.sleep(MOST_SECONDS * 1000L);
+            } catch (InterruptedException ended) {
+                return;
+            }
+            System.out.println("a call has not ended in " + MOST_SECONDS + " seconds");
+            Runtime.getRuntime().halt(1);
+        });
+        watcher.setDaemon(true);
+        watcher.start();
     }
 
     private static int chanceOf(RoomTest room) {
